@@ -271,12 +271,14 @@ public final class FineSlot {
     public int write() {
         plan.takeRule(now, now.ruleInForce());
         int best = NONE;
-        long least = daysWithCard(NONE);
-        for (int day = 0; day < DAYS; day++) {
-            long days = daysWithCard(day);
-            if (days < least) {
+        long least = 0;
+        for (int i = -1; i < DAYS; i++) {
+            int day = i < 0 ? NONE : i;
+            plan.takeCard(now, day);
+            plan.tally(now, day);
+            if (day == NONE || plan.days < least) {
                 best = day;
-                least = days;
+                least = plan.days;
             }
         }
         return best;
@@ -633,13 +635,6 @@ public final class FineSlot {
         return plan.out[DAYS - 1];
     }
 
-    /** DAYS with a card (or NONE); the rule has been taken. */
-    private long daysWithCard(int card) {
-        plan.takeCard(now, card);
-        plan.tally(now, card);
-        return plan.days;
-    }
-
     private static final class Dice {
         int z = 1;
 
@@ -787,7 +782,7 @@ public final class FineSlot {
         }
 
         int addText(Text text) {
-            if (textCount >= TEXTS) {
+            if (textCount >= TEXTS || !within(text.key, 0, KEYS - 1)) {
                 return FULL;
             }
             texts[textCount] = text;
@@ -1026,17 +1021,21 @@ public final class FineSlot {
             int top = 0;
             for (int i = 0; i < code.length; i++) {
                 int c = code[i];
-                if (c < SIGN && top < stack.length) {
-                    stack[top] = c < NAME ? c : c == NAME ? first : c == NAME + 1 ? second : third;
-                    top++;
-                } else if (c == SIGN + '!' && within(top, 1, stack.length)) {
-                    stack[top - 1] = truth(stack[top - 1] == 0);
+                if (c < SIGN) {
+                    if (top < stack.length) {
+                        stack[top] = c < NAME ? c : c == NAME ? first : c == NAME + 1 ? second : third;
+                        top++;
+                    }
+                } else if (c == SIGN + '!') {
+                    if (within(top, 1, stack.length)) {
+                        stack[top - 1] = stack[top - 1] == 0 ? 1 : 0;
+                    }
                 } else if (within(top, 2, stack.length)) {
                     top--;
                     stack[top - 1] = joined(c - SIGN, stack[top - 1], stack[top]);
                 }
             }
-            return stack.length > 0 ? stack[0] : 0;
+            return within(top, 1, stack.length) ? stack[top - 1] : 0;
         }
 
         private static int joined(int sign, int left, int right) {
@@ -1050,20 +1049,16 @@ public final class FineSlot {
                 case '/':
                     return right == 0 ? 0 : left / right;
                 case '<':
-                    return truth(left < right);
+                    return left < right ? 1 : 0;
                 case '=':
-                    return truth(left == right);
+                    return left == right ? 1 : 0;
                 case '>':
-                    return truth(left > right);
+                    return left > right ? 1 : 0;
                 case '&':
-                    return truth(left != 0 && right != 0);
+                    return left != 0 && right != 0 ? 1 : 0;
                 default:
-                    return truth(left != 0 || right != 0);
+                    return left != 0 || right != 0 ? 1 : 0;
             }
-        }
-
-        private static int truth(boolean v) {
-            return v ? 1 : 0;
         }
     }
 
@@ -1071,6 +1066,7 @@ public final class FineSlot {
     private static final class Parser {
         // What is in hand, where it is not a sign, which is its own byte.
         static final int END = -1, LETTERS = 256, DIGITS = 257, WRONG = 258;
+        static final int LOOSEST = 0, TESTS = 2, TIGHTEST = 4;
         static final int DEEPEST = 8;
 
         private final int[] code = new int[TAPE];
@@ -1097,7 +1093,7 @@ public final class FineSlot {
                 refuse();
             } else {
                 advance();
-                readOr(0, 0);
+                readLevel(LOOSEST, 0, 0);
                 if (hand != END) {
                     refuse();
                 }
@@ -1106,7 +1102,7 @@ public final class FineSlot {
         }
 
         Text read() {
-            return new Text(within(key, 0, KEYS - 1) ? key : OWE, leaves, Arrays.copyOf(code, size));
+            return new Text(key, leaves, Arrays.copyOf(code, size));
         }
 
         /** With the end in hand no loop goes on, and of several faults the first stays. */
@@ -1147,11 +1143,11 @@ public final class FineSlot {
         }
 
         private static boolean isLetter(int b) {
-            return within(b, 'a', 'z');
+            return b >= 'a' && b <= 'z';
         }
 
         private static boolean isDigit(int b) {
-            return within(b, '0', '9');
+            return b >= '0' && b <= '9';
         }
 
         private int keyInHand() {
@@ -1176,66 +1172,58 @@ public final class FineSlot {
             return true;
         }
 
-        private void readOr(int brackets, int nots) {
-            readAnd(brackets, nots);
-            for (int i = 0; i < TAPE && hand == '|'; i++) {
-                advance();
-                readAnd(brackets, nots);
-                add(Text.SIGN + '|');
-            }
-        }
-
-        private void readAnd(int brackets, int nots) {
-            readTest(brackets, nots);
-            for (int i = 0; i < TAPE && hand == '&'; i++) {
-                advance();
-                readTest(brackets, nots);
-                add(Text.SIGN + '&');
-            }
-        }
-
-        private void readTest(int brackets, int nots) {
-            readSum(brackets, nots);
-            if (hand == '<' || hand == '=' || hand == '>') {
-                int sign = hand;
-                advance();
-                readSum(brackets, nots);
-                add(Text.SIGN + sign);
-            }
-        }
-
-        private void readSum(int brackets, int nots) {
-            readTerm(brackets, nots);
-            for (int i = 0; i < TAPE && (hand == '+' || hand == '-'); i++) {
-                int sign = hand;
-                advance();
-                readTerm(brackets, nots);
-                add(Text.SIGN + sign);
-            }
-        }
-
-        private void readTerm(int brackets, int nots) {
-            readPiece(brackets, nots);
-            for (int i = 0; i < TAPE && (hand == '*' || hand == '/'); i++) {
-                int sign = hand;
-                advance();
+        private void readLevel(int level, int brackets, int nots) {
+            if (level > TIGHTEST) {
                 readPiece(brackets, nots);
+                return;
+            }
+            readLevel(level + 1, brackets, nots);
+            int most = level == TESTS ? 1 : TAPE;
+            for (int i = 0; i < most && levelOf(hand) == level; i++) {
+                int sign = hand;
+                advance();
+                readLevel(level + 1, brackets, nots);
                 add(Text.SIGN + sign);
+            }
+        }
+
+        private static int levelOf(int sign) {
+            switch (sign) {
+                case '|':
+                    return LOOSEST;
+                case '&':
+                    return LOOSEST + 1;
+                case '<':
+                case '=':
+                case '>':
+                    return TESTS;
+                case '+':
+                case '-':
+                    return TESTS + 1;
+                case '*':
+                case '/':
+                    return TIGHTEST;
+                default:
+                    return NONE;
             }
         }
 
         private void readPiece(int brackets, int nots) {
             if (hand == DIGITS) {
-                addLeaf(numberInHand());
+                add(numberInHand());
+                leaves++;
+                advance();
             } else if (hand == LETTERS && nameInHand() >= 0) {
-                addLeaf(Text.NAME + nameInHand());
+                add(Text.NAME + nameInHand());
+                leaves++;
+                advance();
             } else if (hand == '!' && nots < DEEPEST) {
                 advance();
                 readPiece(brackets, nots + 1);
                 add(Text.SIGN + '!');
             } else if (hand == '(' && brackets < DEEPEST) {
                 advance();
-                readOr(brackets + 1, nots);
+                readLevel(LOOSEST, brackets + 1, nots);
                 if (hand == ')') {
                     advance();
                 } else {
@@ -1261,12 +1249,6 @@ public final class FineSlot {
             }
             String names = key == OWE ? "dab" : key == SHAMES ? "os" : "df";
             return names.indexOf((char) tape.bytes[start]);
-        }
-
-        private void addLeaf(int c) {
-            add(c);
-            leaves++;
-            advance();
         }
 
         private void add(int c) {
