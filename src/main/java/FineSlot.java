@@ -38,7 +38,6 @@ public final class FineSlot {
     private final Plan plan = new Plan();
     private final Rule trial = new Rule();
     private final Dice imageDice = new Dice();
-    private final Tape tape = new Tape();
     private final Parser parser = new Parser();
     private final Sheet[] sheets = new Sheet[SHEETS];
     private final Slot[] slots = new Slot[SLOTS];
@@ -304,33 +303,33 @@ public final class FineSlot {
     // ---- texts
 
     public int feed(int a, int b, int c) {
-        if (tape.size > TAPE - 12) {
+        if (parser.tape.size > TAPE - 12) {
             return FULL;
         }
-        tape.addFour(a);
-        tape.addFour(b);
-        tape.addFour(c);
-        return tape.size;
+        parser.tape.addFour(a);
+        parser.tape.addFour(b);
+        parser.tape.addFour(c);
+        return parser.tape.size;
     }
 
     public int trim(int n) {
-        if (!within(n, 0, tape.size)) {
+        if (!within(n, 0, parser.tape.size)) {
             return BAD;
         }
-        tape.size = n;
+        parser.tape.size = n;
         return n;
     }
 
     public int text() {
-        int fault = parser.faultOf(tape);
-        tape.size = 0;
+        int fault = parser.findFault();
+        parser.tape.size = 0;
         if (fault != NONE) {
             return -100 - fault;
         }
         if (now.textCount >= TEXTS) {
             return FULL;
         }
-        return now.addText(parser.read());
+        return now.addText(parser.made());
     }
 
     public int textTold(int text, int what) {
@@ -570,7 +569,7 @@ public final class FineSlot {
             case 5:
                 return waits;
             case 6:
-                return tape.size;
+                return parser.tape.size;
             case 7:
                 return now.dice.z;
             default:
@@ -989,15 +988,99 @@ public final class FineSlot {
         }
     }
 
+    /** Bytes that have been fed, and the word or sign of them that is in hand. */
     private static final class Tape {
+        // What is in hand, where it is not a sign, which is its own byte.
+        static final int END = -1, LETTERS = 256, DIGITS = 257, WRONG = 258;
+
         final int[] bytes = new int[TAPE];
         int size = 0;
+        int hand = END;
+        int start = 0;
+        private int stop = 0;
 
         void addFour(int v) {
             for (int shift = 24; shift >= 0 && size < TAPE; shift -= 8) {
                 bytes[size] = v >>> shift & 255;
                 size++;
             }
+        }
+
+        void rewind() {
+            stop = 0;
+            hand = END;
+            advance();
+        }
+
+        void runOut() {
+            stop = size;
+            hand = END;
+        }
+
+        void advance() {
+            int behind = stop;
+            boolean wordBefore = hasWord();
+            start = stop;
+            while (start < size && bytes[start] == ' ') {
+                start++;
+            }
+            if (start >= size) {
+                runOut();
+                return;
+            }
+            int b = bytes[start];
+            stop = start + 1;
+            hand = isLetter(b) ? LETTERS : isDigit(b) ? DIGITS : b;
+            while (stop < size && goesOn(bytes[stop])) {
+                stop++;
+            }
+            if (hasWord() && wordBefore && start == behind || hand == DIGITS && stop - start > 4) {
+                hand = WRONG;
+            }
+        }
+
+        private boolean hasWord() {
+            return hand == LETTERS || hand == DIGITS;
+        }
+
+        private boolean goesOn(int b) {
+            return hand == LETTERS && isLetter(b) || hand == DIGITS && isDigit(b);
+        }
+
+        private static boolean isLetter(int b) {
+            return b >= 'a' && b <= 'z';
+        }
+
+        private static boolean isDigit(int b) {
+            return b >= '0' && b <= '9';
+        }
+
+        boolean isWord(String word) {
+            if (hand != LETTERS || stop - start != word.length()) {
+                return false;
+            }
+            for (int i = 0; i < word.length() && start + i < size; i++) {
+                if (bytes[start + i] != word.charAt(i)) {
+                    return false;
+                }
+            }
+            return true;
+        }
+
+        int number() {
+            int number = 0;
+            for (int i = start; i < stop && i < size; i++) {
+                number = number * 10 + bytes[i] - '0';
+            }
+            return number;
+        }
+
+        /** Where the letter in hand stands in a row of names; -1: it does not, or it is no single letter. */
+        int placeIn(String names) {
+            if (hand != LETTERS || stop - start != 1 || start >= size) {
+                return -1;
+            }
+            return names.indexOf((char) bytes[start]);
         }
     }
 
@@ -1062,114 +1145,62 @@ public final class FineSlot {
         }
     }
 
-    /** Reads a tape, one word or sign ahead; the first fault ends it. */
+    /** Makes a text of its tape; the first fault ends it. */
     private static final class Parser {
-        // What is in hand, where it is not a sign, which is its own byte.
-        static final int END = -1, LETTERS = 256, DIGITS = 257, WRONG = 258;
         static final int LOOSEST = 0, TESTS = 2, TIGHTEST = 4;
         static final int DEEPEST = 8;
 
+        final Tape tape = new Tape();
         private final int[] code = new int[TAPE];
         private int size = 0;
         private int leaves = 0;
         private int key = OWE;
-        private Tape tape = null;
-        private int start = 0;
-        private int stop = 0;
-        private int hand = END;
         private int fault = NONE;
 
-        /** The place of the fault, or NONE; then read() gives the text. */
-        int faultOf(Tape fed) {
-            tape = fed;
+        /** The place of the tape's fault, or NONE; then made() gives its text. */
+        int findFault() {
             size = 0;
             leaves = 0;
             fault = NONE;
-            stop = 0;
-            hand = END;
-            advance();
+            tape.rewind();
             key = keyInHand();
             if (key == NONE) {
                 refuse();
-            } else {
-                advance();
-                readLevel(LOOSEST, 0, 0);
-                if (hand != END) {
-                    refuse();
-                }
+                return fault;
+            }
+            tape.advance();
+            readLevel(LOOSEST, 0, 0);
+            if (tape.hand != Tape.END) {
+                refuse();
             }
             return fault;
         }
 
-        Text read() {
+        Text made() {
             return new Text(key, leaves, Arrays.copyOf(code, size));
         }
 
-        /** With the end in hand no loop goes on, and of several faults the first stays. */
+        /** A tape that has run out ends all loops; of several faults the first stays. */
         private void refuse() {
             if (fault == NONE) {
-                fault = start;
+                fault = tape.start;
             }
-            stop = tape.size;
-            hand = END;
-        }
-
-        private void advance() {
-            int behind = stop;
-            boolean wordBefore = hand == LETTERS || hand == DIGITS;
-            start = stop;
-            while (start < tape.size && tape.bytes[start] == ' ') {
-                start++;
-            }
-            if (start >= tape.size) {
-                stop = start;
-                hand = END;
-                return;
-            }
-            int b = tape.bytes[start];
-            stop = start + 1;
-            hand = isLetter(b) ? LETTERS : isDigit(b) ? DIGITS : b;
-            while (stop < tape.size && goesOn(tape.bytes[stop])) {
-                stop++;
-            }
-            boolean word = hand == LETTERS || hand == DIGITS;
-            if (word && wordBefore && start == behind || hand == DIGITS && stop - start > 4) {
-                hand = WRONG;
-            }
-        }
-
-        private boolean goesOn(int b) {
-            return hand == LETTERS && isLetter(b) || hand == DIGITS && isDigit(b);
-        }
-
-        private static boolean isLetter(int b) {
-            return b >= 'a' && b <= 'z';
-        }
-
-        private static boolean isDigit(int b) {
-            return b >= '0' && b <= '9';
+            tape.runOut();
         }
 
         private int keyInHand() {
-            if (isWord("owe")) {
+            if (tape.isWord("owe")) {
                 return OWE;
             }
-            if (isWord("shame")) {
+            if (tape.isWord("shame")) {
                 return SHAMES;
             }
-            return isWord("forget") ? FORGET : NONE;
+            return tape.isWord("forget") ? FORGET : NONE;
         }
 
-        private boolean isWord(String word) {
-            if (hand != LETTERS || stop - start != word.length()) {
-                return false;
-            }
-            for (int i = 0; i < word.length(); i++) {
-                if (tape.bytes[start + i] != word.charAt(i)) {
-                    return false;
-                }
-            }
-            return true;
+        /** The key's names, in the order in which Text.workOut() takes them. */
+        private String names() {
+            return key == OWE ? "dab" : key == SHAMES ? "os" : "df";
         }
 
         private void readLevel(int level, int brackets, int nots) {
@@ -1179,9 +1210,9 @@ public final class FineSlot {
             }
             readLevel(level + 1, brackets, nots);
             int most = level == TESTS ? 1 : TAPE;
-            for (int i = 0; i < most && levelOf(hand) == level; i++) {
-                int sign = hand;
-                advance();
+            for (int i = 0; i < most && levelOf(tape.hand) == level; i++) {
+                int sign = tape.hand;
+                tape.advance();
                 readLevel(level + 1, brackets, nots);
                 add(Text.SIGN + sign);
             }
@@ -1209,23 +1240,22 @@ public final class FineSlot {
         }
 
         private void readPiece(int brackets, int nots) {
-            if (hand == DIGITS) {
-                add(numberInHand());
-                leaves++;
-                advance();
-            } else if (hand == LETTERS && nameInHand() >= 0) {
-                add(Text.NAME + nameInHand());
-                leaves++;
-                advance();
-            } else if (hand == '!' && nots < DEEPEST) {
-                advance();
+            int name = tape.placeIn(names());
+            if (tape.hand == Tape.DIGITS) {
+                addLeaf(tape.number());
+                tape.advance();
+            } else if (name >= 0) {
+                addLeaf(Text.NAME + name);
+                tape.advance();
+            } else if (tape.hand == '!' && nots < DEEPEST) {
+                tape.advance();
                 readPiece(brackets, nots + 1);
                 add(Text.SIGN + '!');
-            } else if (hand == '(' && brackets < DEEPEST) {
-                advance();
+            } else if (tape.hand == '(' && brackets < DEEPEST) {
+                tape.advance();
                 readLevel(LOOSEST, brackets + 1, nots);
-                if (hand == ')') {
-                    advance();
+                if (tape.hand == ')') {
+                    tape.advance();
                 } else {
                     refuse();
                 }
@@ -1234,21 +1264,9 @@ public final class FineSlot {
             }
         }
 
-        private int numberInHand() {
-            int number = 0;
-            for (int i = start; i < stop && i < tape.size; i++) {
-                number = number * 10 + tape.bytes[i] - '0';
-            }
-            return number;
-        }
-
-        /** Which name of the key's, in the order in which Text.workOut() takes them; -1: none. */
-        private int nameInHand() {
-            if (stop - start != 1 || start >= tape.size) {
-                return -1;
-            }
-            String names = key == OWE ? "dab" : key == SHAMES ? "os" : "df";
-            return names.indexOf((char) tape.bytes[start]);
+        private void addLeaf(int c) {
+            add(c);
+            leaves++;
         }
 
         private void add(int c) {

@@ -137,7 +137,8 @@ public final class PromiseTest {
         due("z", x.count(7), z);
         all("LIMIT", 9999, x.sortTold(0, 4), x.sortTold(1, 4));
         all("NEVER", 500, x.sortTold(0, 6), x.sortTold(1, 6));
-        due("deal(6)", x.deal(6), 4);
+        due("deal(1)", x.deal(1), 1);
+        due("deal(6)", x.deal(6), 3);
         z = x.count(7);
         due("deal(6) again", x.deal(6), 0);
         due("z", x.count(7), z);
@@ -311,6 +312,8 @@ public final class PromiseTest {
         x.force(0);
         x.change(0, 4, 35);
         due("above LIMIT", x.first(0, 1), 4);
+        x.change(0, 4, 40);
+        due("LIMIT itself is not above it", x.first(0, 1), 5);
         due("brings", x.first(0, 0), 0);
         due("OUT", x.first(0, 2), 0);
         x.change(0, 1, 50);
@@ -421,6 +424,16 @@ public final class PromiseTest {
         due("DAYS", x.library(0), 101L * 31 * 1000000 + 98 * days);
         due("COIN", x.library(1), 98 * coin);
         due("LOST", x.library(2), 101L * 1000000 + 98 * out);
+        x = new FineSlot();
+        x.sort(2, 0, 0);
+        x.rule(0, 0, 0, 1);
+        x.force(0);
+        x.change(0, 4, 8);
+        text("owe 9 * (d < 30)");
+        due("all on the last day: DAYS", x.library(0), 2L * 30 * 1000000);
+        due("all on the last day: LOST", x.library(2), 0);
+        x.card(30);
+        due("all on the last day: CARDS", x.library(3), 2L * 1000000);
     }
 
     private static void searches() {
@@ -438,6 +451,8 @@ public final class PromiseTest {
         text("owe 41 - a");
         x.change(0, 4, 0);
         due("41 is not looked at", x.find(), 0);
+        text("owe 40 - a");
+        due("40 is looked at", x.find(), 40);
         x.force(NONE);
         due("none in force", x.find(), NO);
 
@@ -465,6 +480,10 @@ public final class PromiseTest {
         x.change(0, 6, 1010);
         x.turns(0, 2);
         due("dearer than keeping", x.edge(0), 12);
+        text("owe 9 * (d < 30) + a * (d = 30)");
+        x.turns(0, 0);
+        x.change(0, 4, 8);
+        due("who comes on the last day", x.edge(0), 9);
 
         promise(22);
         due("no sorts", x.write(), NONE);
@@ -542,6 +561,8 @@ public final class PromiseTest {
         due("the fifteenth, with a fault", text("owe ?"), -104);
         due("used up", x.count(6), 0);
         due("texts", x.count(4), 14);
+        due("the last one", x.textTold(13, 1), 1);
+        due("none behind it", x.textTold(14, 1), BAD);
     }
 
     private static void laws() {
@@ -569,6 +590,8 @@ public final class PromiseTest {
         due("|", owe("0|6", 0), 1);
         due("|", owe("0|0", 0), 0);
         due("& is closer than |", owe("1|0&0", 0), 1);
+        due("sums are closer than tests", owe("5=2+3", 0), 1);
+        due("sums are closer than tests", owe("1+1>5", 0), 0);
         due("tests are closer than &", owe("2>1&3>2", 0), 1);
         due("!", owe("!5", 0), 0);
         due("!!", owe("!!5", 0), 1);
@@ -594,6 +617,9 @@ public final class PromiseTest {
         due("key and blanks", text("owe  "), -105);
         due("no key", text(" ow 3"), -101);
         due("longer word", text("owed 3"), -100);
+        due("longer word", text("owez 3"), -100);
+        due("longer word", text("aowe 3"), -100);
+        due("another word", text("awe 3"), -100);
         due("upper case", text("Owe 3"), -100);
         due("a number for a key", text("3 owe"), -100);
         due("a word that needs a blank", text("owe3"), -103);
@@ -732,6 +758,10 @@ public final class PromiseTest {
         due("15625 / 10000 is 1", x.learn(0), 1);
         x.sheet(0, 0, 0);
         due("no places", x.learn(0), 0);
+        x.sheet(0, 0, 1);
+        x.mark(0, 0, 99);
+        x.change(1, 1, 1);
+        due("1000000 / 10000 is 100", x.learn(0), 1);
 
         promise(32);
         x.sheet(0, 1, 24);
@@ -744,6 +774,8 @@ public final class PromiseTest {
         due("of numbers alone", x.reads(0, 0), NONE);
         x.mark(0, 4, 7);
         due("reads", x.reads(0, 0), 4);
+        x.mark(0, 0, 1);
+        due("the first place", x.reads(0, 0), 0);
         text("owe d = 4");
         x.turns(0, 0);
         x.sheet(0, 0, 4);
@@ -904,6 +936,18 @@ public final class PromiseTest {
         tellReaders(1);
         x.tell(-1);
         due("half a reader", x.check(2), 4);
+        x = new FineSlot();
+        x.sort(1, 0, 5);
+        x.rule(0, 3, 0, 1);
+        x.force(0);
+        text("owe 8");
+        x.keep();
+        text("owe 9");
+        x.tell(0);
+        x.tell(8);
+        x.tell(0);
+        x.tell(8);
+        due("one sort, by the image's law", x.check(2), 0);
     }
 
     /** The readers of an image with z 5: sort 0 forgets 60, sort 1 all; three a day. */
